@@ -1,0 +1,67 @@
+/** Holds answers against those that are due, prints each that is not, and ends the test. */
+final class Due {
+    interface Call {
+        void make();
+    }
+
+    private String promise = "";
+    private int asked;
+    private int wrong;
+
+    void promise(String name) {
+        promise = name;
+    }
+
+    void is(String what, long got, long want) {
+        asked++;
+        if (got != want) {
+            wrong(what + " answered " + got + ", due is " + want);
+        }
+    }
+
+    void yes(String what, boolean got) {
+        is(what, got ? 1 : 0, 1);
+    }
+
+    void no(String what, boolean got) {
+        is(what, got ? 1 : 0, 0);
+    }
+
+    void outOfBounds(String what, Call call) {
+        fails(what, IndexOutOfBoundsException.class, call);
+    }
+
+    void badArgument(String what, Call call) {
+        fails(what, IllegalArgumentException.class, call);
+    }
+
+    void badState(String what, Call call) {
+        fails(what, IllegalStateException.class, call);
+    }
+
+    /** The very class is due: one below it would be the machine's own. */
+    private void fails(String what, Class<? extends RuntimeException> want, Call call) {
+        asked++;
+        try {
+            call.make();
+        } catch (RuntimeException e) {
+            if (e.getClass() != want) {
+                wrong(what + " threw " + e + ", due is " + want.getName());
+            }
+            return;
+        }
+        wrong(what + " threw nothing, due is " + want.getName());
+    }
+
+    private void wrong(String line) {
+        wrong++;
+        System.out.println(promise + ": " + line);
+    }
+
+    void end() {
+        System.out.println(asked + " answers, " + wrong + " not as due");
+        if (wrong != 0 || asked == 0) {
+            System.exit(1);
+        }
+    }
+}

@@ -76,6 +76,10 @@ public final class RulesTest {
         wrongAt("REST 8 SKILL 1 ", 15);
         wrongAt("REST 8 SKILL 1 PAY", 18);
         wrongAt("RES 8 PAY 1", 0);
+        wrongAt("XEST 8 PAY 1", 0);
+        wrongAt("RESX 8 PAY 1", 0);
+        wrongAt("REST 8 SKALL 1 PAY 1", 7);
+        wrongAt("REST 8 XAY 1", 7);
         wrongAt(" RESTS 8 PAY 1", 1);
         wrongAt("  PAY 8 PAY 1", 2);
         wrongAt("8 REST PAY 1", 0);
@@ -245,6 +249,8 @@ public final class RulesTest {
         clock.hold(second, -1);
         due.no("not held", clock.breaks(second, rule));
         due.no("12 hours", clock.breaks(third, rule));
+        int least = Clocks.read(clock, "WEEK 8 PAY 1");
+        due.yes("9 hours, nothing ahead", clock.breaks(first, least));
     }
 
     private static void breaksRow() {
@@ -351,6 +357,10 @@ public final class RulesTest {
         due.no("skill 2, one day ahead", clock.breaks(second, row));
         due.yes("skill 0", clock.breaks(third, skill0));
         due.no("skill 0", clock.breaks(second, skill0));
+        int any = Clocks.read(clock, "LONG 8 PAY 1");
+        for (int shift = first; shift <= fourth; shift++) {
+            due.yes("any skill", clock.breaks(shift, any));
+        }
         due.is("the skill of the worker does not count", clock.worker(0, 0, 5), 10);
         due.yes("the skill of the worker does not count", clock.breaks(fourth, longer));
     }

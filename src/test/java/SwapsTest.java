@@ -10,6 +10,7 @@ public final class SwapsTest {
         offers();
         offersEndByHold();
         ring();
+        ringWithAWorkerTwice();
         ringOfLowestOffers();
         ringOfEight();
         swapOfTwo();
@@ -178,6 +179,25 @@ public final class SwapsTest {
         due.is("1 -> second -> 2 -> 1", clock.ring(5), 3);
         Clocks.passTo(clock, 350);
         due.is("time takes no ring away", clock.ring(5), 3);
+    }
+
+    private static void ringWithAWorkerTwice() {
+        due.promise("Promise 27: ring, a worker twice in it");
+        UnionClock clock = clockOf(3);
+        int second = Clocks.held(clock, 400, 5, 0);
+        clock.offer(0, 1);
+        clock.offer(1, second);
+        clock.offer(second, 2);
+        clock.offer(2, 0);
+        for (int offer = 0; offer < 4; offer++) {
+            int asked = offer;
+            due.is("it would end, with worker 0 twice", clock.ring(offer), 0);
+            due.badState("it would end, with worker 0 twice", () -> clock.swap(asked));
+        }
+        clock.hold(second, 3);
+        clock.offer(1, second);
+        clock.offer(second, 2);
+        due.is("another worker", clock.ring(0), 4);
     }
 
     private static void ringOfLowestOffers() {

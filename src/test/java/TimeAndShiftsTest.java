@@ -13,6 +13,7 @@ public final class TimeAndShiftsTest {
         stampRefused();
         holder();
         shiftOf();
+        orderOfAllShifts();
         rest();
         due.end();
     }
@@ -176,6 +177,21 @@ public final class TimeAndShiftsTest {
         due.badState("stamps do not make room", () -> clock.hold(middle, 0));
         int atStamps = clock.shift(42, 4, 0);
         due.is("stamps do not take room", clock.hold(atStamps, 0), -1);
+        int stamped = Clocks.held(clock, 20, 10, 2);
+        int ahead = Clocks.held(clock, 10, 10, 3);
+        int behind = Clocks.held(clock, 30, 10, 4);
+        clock.stamp(stamped, 12, 36);
+        due.is("its own stamps take no room ahead", clock.hold(stamped, 3), 2);
+        due.is("its own stamps take no room behind", clock.hold(stamped, 4), 3);
+        due.is("nor of one that it comes behind of", clock.hold(ahead, 4), 3);
+        due.is("behind", clock.holder(behind), 4);
+        int meets = clock.shift(26, 3, 0);
+        clock.stamp(stamped, 50, 52);
+        due.badState("its own stamps make no room", () -> clock.hold(meets, 4));
+        clock.stamp(stamped, 1, 2);
+        due.badState("its own stamps make no room", () -> clock.hold(meets, 4));
+        clock.hold(meets, 5);
+        due.badState("its own stamps make no room", () -> clock.hold(stamped, 5));
     }
 
     private static void stamp() {
@@ -274,6 +290,13 @@ public final class TimeAndShiftsTest {
         clock.hold(middle, 2);
         order(clock, 3, first, last);
         order(clock, 2, middle);
+        clock.stamp(last, 20, 40);
+        clock.hold(last, -1);
+        clock.hold(last, 3);
+        order(clock, 3, last, first);
+        clock.hold(first, -1);
+        clock.hold(first, 3);
+        order(clock, 3, last, first);
         clock.hold(first, -1);
         order(clock, 3, last);
     }
@@ -283,6 +306,27 @@ public final class TimeAndShiftsTest {
             due.is("place " + place + " of worker " + worker, clock.shiftOf(worker, place), shifts[place]);
         }
         due.outOfBounds("no more shifts", () -> clock.shiftOf(worker, shifts.length));
+    }
+
+    private static void orderOfAllShifts() {
+        due.promise("Promise 8: shiftOf, of one who holds all shifts");
+        UnionClock clock = Clocks.ofAllSkills();
+        int[] rising = new int[40];
+        for (int shift = 0; shift < 40; shift++) {
+            Clocks.held(clock, 20 * (39 - shift), 16, 7);
+            rising[39 - shift] = shift;
+        }
+        order(clock, 7, rising);
+        due.is("rest of the last one", clock.rest(0), 4);
+        Clocks.passTo(clock, 30);
+        clock.stamp(0, 1, 2);
+        due.is("from the last place to the second", clock.shiftOf(7, 1), 0);
+        due.is("the first stays", clock.shiftOf(7, 0), 39);
+        due.is("the others move on", clock.shiftOf(7, 39), 1);
+        due.is("held by the same", clock.hold(0, 7), 7);
+        due.is("given to another", clock.hold(0, 6), 7);
+        due.is("the others move back", clock.shiftOf(7, 38), 1);
+        due.outOfBounds("39 are left", () -> clock.shiftOf(7, 39));
     }
 
     private static void rest() {

@@ -4,6 +4,7 @@ final class Due {
         void make();
     }
 
+    private final Document document = Document.read();
     private String promise = "";
     private int asked;
     private int wrong;
@@ -12,10 +13,39 @@ final class Due {
         promise = name;
     }
 
+    /** Begins the test of a sentence, or of some that say one thing, each quoted word by word. */
+    void sentence(String section, String... quotes) {
+        promise = section + ", '" + quotes[0] + "'";
+        for (String quote : quotes) {
+            asked++;
+            if (!document.quote(section, quote)) {
+                wrong("the document has no '" + quote + "' there");
+            }
+        }
+    }
+
+    /** Every word of these sections is due to have been quoted by a test. */
+    void allQuoted(String... sections) {
+        for (String section : sections) {
+            promise = section;
+            asked++;
+            for (String part : document.unquoted(section)) {
+                wrong("no test has quoted '" + part + "'");
+            }
+        }
+    }
+
     void is(String what, long got, long want) {
         asked++;
         if (got != want) {
             wrong(what + " answered " + got + ", due is " + want);
+        }
+    }
+
+    void same(String what, String got, String want) {
+        asked++;
+        if (!got.equals(want)) {
+            wrong(what + ": " + got + ", due is " + want);
         }
     }
 
@@ -40,7 +70,7 @@ final class Due {
     }
 
     /** The very class is due: one below it would be the machine's own. */
-    private void fails(String what, Class<? extends RuntimeException> want, Call call) {
+    void fails(String what, Class<? extends RuntimeException> want, Call call) {
         asked++;
         try {
             call.make();
